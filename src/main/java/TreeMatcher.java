@@ -671,16 +671,19 @@ public final class TreeMatcher {
 
         private final Grammar grammar;
         private final Parts parts;
+        private final Groups byOperator;
         private final Labels labels;
         private final long[][] rows;
-        /** The operator at the root of a row's trees; NONE where no part fits: such trees are alike under any operator. */
+        /** The operator at the root of a row's trees; NONE where no part fits: then no operator tells trees apart. */
         private final int[] roots;
+        /** Of the tree that is looked at, the costs of the parts that begin with its operator: no other one can fit. */
         private final long[] fresh = new long[Parts.MOST];
         private int size = 0;
 
         Vectors(Grammar grammar, int room) {
             this.grammar = grammar;
             parts = grammar.parts();
+            byOperator = parts.byOperator();
             labels = new Labels(grammar);
             rows = new long[room][];
             roots = new int[room];
@@ -700,8 +703,7 @@ public final class TreeMatcher {
          * missing from all costs of the tree alike.
          */
         int rowOf(int operator, int left, int right) {
-            compose(operator, left, right);
-            long least = leastCost(operator);
+            long least = compose(operator, left, right);
             subtract(operator, least);
             int root = least == NONE ? NONE : operator;
             for (int row = 0; row < size; row++) {
@@ -712,21 +714,18 @@ public final class TreeMatcher {
             return size < rows.length ? keep(operator, root) : NONE;
         }
 
-        private void compose(int operator, int left, int right) {
-            labels.forget();
-            Groups byOperator = parts.byOperator();
+        /** Answers the least cost, NONE if no part fits; a nonterminal costs no less than the pattern that gave it. */
+        private long compose(int operator, int left, int right) {
+            long least = NONE;
             for (int k = byOperator.start(operator); k < byOperator.end(operator); k++) {
                 int part = byOperator.member(k);
                 long cost = sum(entry(left, parts.leftOf(part)), entry(right, parts.rightOf(part)));
-                int rule = parts.ruleOf(part);
                 fresh[part] = cost;
-                if (rule != NONE && cost != NONE) {
-                    labels.offer(rule, cost + grammar.costOf(rule), 0);
+                if (cost != NONE && (least == NONE || cost < least)) {
+                    least = cost;
                 }
             }
-            for (int nonterminal = 0; nonterminal < NONTERMINALS; nonterminal++) {
-                fresh[nonterminal] = labels.costOf(nonterminal);
-            }
+            return least;
         }
 
         /** A kid that a part does not have costs nothing. */
@@ -734,60 +733,28 @@ public final class TreeMatcher {
             if (part == NONE) {
                 return 0;
             }
-            return isWithin(row, size) ? rows[row][part] : NONE;
+            return isWithin(row, size) && part < rows[row].length ? rows[row][part] : NONE;
         }
 
         private static long sum(long left, long right) {
             return left == NONE || right == NONE ? NONE : Math.min(left + right, MOST_SUM);
         }
 
-        /** NONE if no part fits: a nonterminal fits only where the pattern of a rule does. */
-        private long leastCost(int operator) {
-            long least = NONE;
-            for (int nonterminal = 0; nonterminal < NONTERMINALS; nonterminal++) {
-                least = lesser(least, fresh[nonterminal]);
-            }
-            Groups byOperator = parts.byOperator();
-            for (int k = byOperator.start(operator); k < byOperator.end(operator); k++) {
-                least = lesser(least, fresh[byOperator.member(k)]);
-            }
-            return least;
-        }
-
-        private static long lesser(long one, long other) {
-            if (one == NONE) {
-                return other;
-            }
-            return other == NONE ? one : Math.min(one, other);
-        }
-
         private void subtract(int operator, long least) {
-            for (int nonterminal = 0; nonterminal < NONTERMINALS; nonterminal++) {
-                subtractAt(nonterminal, least);
-            }
-            Groups byOperator = parts.byOperator();
-            for (int k = byOperator.start(operator); k < byOperator.end(operator); k++) {
-                subtractAt(byOperator.member(k), least);
-            }
-        }
-
-        private void subtractAt(int part, long least) {
-            if (fresh[part] != NONE) {
-                fresh[part] -= least;
-            }
-        }
-
-        /** Looks at no part of another operator: where the roots are the same, none of those fits. */
-        private boolean isFresh(int row, int operator) {
-            for (int nonterminal = 0; nonterminal < NONTERMINALS; nonterminal++) {
-                if (rows[row][nonterminal] != fresh[nonterminal]) {
-                    return false;
-                }
-            }
-            Groups byOperator = parts.byOperator();
             for (int k = byOperator.start(operator); k < byOperator.end(operator); k++) {
                 int part = byOperator.member(k);
-                if (rows[row][part] != fresh[part]) {
+                if (fresh[part] != NONE) {
+                    fresh[part] -= least;
+                }
+            }
+        }
+
+        /** Looks at no nonterminal: their costs follow from those of the parts. */
+        private boolean isFresh(int row, int operator) {
+            long[] kept = rows[row];
+            for (int k = byOperator.start(operator); k < byOperator.end(operator); k++) {
+                int part = byOperator.member(k);
+                if (kept[part] != fresh[part]) {
                     return false;
                 }
             }
@@ -799,16 +766,26 @@ public final class TreeMatcher {
             if (rows[row] == null || rows[row].length < parts.size()) {
                 rows[row] = new long[parts.size()];
             }
-            long[] kept = rows[row];
-            Arrays.fill(kept, NONE);
-            System.arraycopy(fresh, 0, kept, 0, NONTERMINALS);
-            Groups byOperator = parts.byOperator();
-            for (int k = byOperator.start(operator); k < byOperator.end(operator); k++) {
-                kept[byOperator.member(k)] = fresh[byOperator.member(k)];
-            }
+            fill(rows[row], operator);
             roots[row] = root;
             size++;
             return row;
+        }
+
+        private void fill(long[] kept, int operator) {
+            Arrays.fill(kept, NONE);
+            labels.forget();
+            for (int k = byOperator.start(operator); k < byOperator.end(operator); k++) {
+                int part = byOperator.member(k);
+                int rule = parts.ruleOf(part);
+                kept[part] = fresh[part];
+                if (rule != NONE && fresh[part] != NONE) {
+                    labels.offer(rule, fresh[part] + grammar.costOf(rule), 0);
+                }
+            }
+            for (int nonterminal = 0; nonterminal < NONTERMINALS; nonterminal++) {
+                kept[nonterminal] = labels.costOf(nonterminal);
+            }
         }
     }
 

@@ -90,7 +90,8 @@ public final class GrammarTest {
 
     private static void ruleOfNoPattern() {
         int[][] wrong = {{}, {1}, {2, 32}, {0, 0}, {32, 32}, {32, 0}, {1, 0, 0}, {2, 0, 0, 0}, {9}, {1, 9},
-            {2, 1, 32, 9}, {2, 2, 0, 0}, {1, 1, 1, 1, 1, 1, 1, 1, 1, 1, 1, 1}, {0, 9}};
+            {2, 1, 32, 9}, {2, 2, 0, 0}, {1, 1, 1, 1, 1, 1, 1, 1, 1, 1, 1, 1}, {0, 9}, {0, 2, 32},
+            {32, 2, 33}};
         TreeMatcher x = new TreeMatcher();
         x.operator(0, 0);
         x.operator(1, 1);
