@@ -667,7 +667,7 @@ public final class TreeMatcher {
          * Sums stop here, so that no sum wraps. Costs would have to double some fifty times to come so far, and
          * there are never rows enough for that.
          */
-        private static final long MOST_SUM = 1L << 60;
+        private static final long MOST_SUM = 1L << 61;
 
         private final Grammar grammar;
         private final Parts parts;

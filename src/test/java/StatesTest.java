@@ -11,6 +11,7 @@ public final class StatesTest {
         patternsWithinPatterns();
         bothKids();
         costsThatDouble();
+        costsBeyondInts();
         same();
         sameWhereNothingFits();
         greatGrammar();
@@ -159,6 +160,21 @@ public final class StatesTest {
         int root = fullTree(x, 6);
         Check.due("the costs have doubled 6 times", x.cost(root, 13), 99 * 64);
         Check.due("and the lesser one has not", x.cost(root, 12), 0);
+    }
+
+    /** Beside 0, which costs nothing, a nonterminal for each second height, up to 28: 99 times 2 to the 28th. */
+    private static void costsBeyondInts() {
+        TreeMatcher x = new TreeMatcher();
+        x.operator(0, 0);
+        x.operator(1, 2);
+        Check.rule(x, 0, 0, 0);
+        Check.rule(x, 1, 99, 0);
+        Check.rule(x, 0, 0, 1, 32, 32);
+        for (int n = 1; n < 15; n++) {
+            int e = 32 + n;
+            Check.rule(x, n + 1, 99, 1, 1, e, e, 1, e, e);
+        }
+        Check.due("the leaf, 28 above it, and all other trees", x.states(), 30);
     }
 
     /** A full tree of the binary operator 1 over leaves 0: its root. */
