@@ -664,8 +664,8 @@ public final class TreeMatcher {
     /** Vectors that differ, a row each. */
     private static final class Vectors {
         /**
-         * Sums stop here, so that no sum wraps. Costs would have to double some fifty times to come so far, and
-         * there are never rows enough for that.
+         * Sums stop here, so that no sum wraps. Costs would have to double some fifty times to come so far; no
+         * grammar is known that does so within the rows that there are.
          */
         private static final long MOST_SUM = 1L << 61;
 
