@@ -76,6 +76,11 @@ final class Model {
         return sum;
     }
 
+    /** -1 for an operator that there is not. */
+    int kidsOf(int number) {
+        return kids[number];
+    }
+
     String operator(int number, int kidCount) {
         if (number < 0 || number > 31 || kidCount < 0 || kidCount > 2) {
             return ARGUMENT;

@@ -5,6 +5,8 @@ import java.util.List;
 public final class RunsTest {
     private static final int RUNS = 1500;
     private static final int CALLS = 512;
+    private static final int[] EDGES = {Integer.MIN_VALUE, Integer.MIN_VALUE + 1, -2, -1, 0, 1, 1 << 28, 3 << 28,
+        Integer.MAX_VALUE - 1, Integer.MAX_VALUE};
 
     private long seed;
     private final TreeMatcher matcher = new TreeMatcher();
@@ -23,6 +25,8 @@ public final class RunsTest {
     private static int tooMany = 0;
     private static int mostStates = 0;
     private static int covers = 0;
+    private static int longCovers = 0;
+    private static int full = 0;
 
     private RunsTest(int run) {
         this.run = run;
@@ -35,10 +39,12 @@ public final class RunsTest {
     public static void main(String[] args) {
         for (int run = 0; run < RUNS; run++) {
             new RunsTest(run).go();
+            new RunsTest(run).goFull();
         }
         System.out.println("states counted " + states + " times, at most " + mostStates + ", too many " + tooMany
-                + " times; covers " + covers);
+                + " times; covers " + covers + ", too long " + longCovers + ", calls refused for want of room " + full);
         Check.due("runs count states, covers and too many states", states > 100 && tooMany > 100 && covers > 100, true);
+        Check.due("runs come to where there is no room", longCovers > 100 && full > 100, true);
         Check.end();
     }
 
@@ -61,6 +67,50 @@ public final class RunsTest {
         }
     }
 
+    /** Until there is no room any more: a chain of rules through all nonterminals, others at random, a high tree. */
+    private void goFull() {
+        make("operator", below(32), 0);
+        make("operator", below(32), 1);
+        int leaf = findOperator(0);
+        int unary = findOperator(1);
+        if (leaf < 0 || unary < 0) {
+            return;
+        }
+        int rules = below(2) == 0 ? 70 : 17 + below(8);
+        for (int k = 0; k < rules; k++) {
+            boolean chain = k > 16 ? below(3) > 0 : k > 0 && k < 16;
+            if (!chain) {
+                make("element", k == 0 ? leaf : unary);
+            }
+            if (k > 0) {
+                make("element", 32 + (k <= 16 ? k - 1 : below(nonterminals)));
+            }
+            int gives = k <= 16 ? k % 16 : below(nonterminals);
+            make("rule", gives, below(mostCost), Integer.MIN_VALUE, limits ? edge() : Integer.MAX_VALUE);
+        }
+        make("states");
+        make("node", leaf, edge(), -1, -1);
+        int nodes = rules > 60 ? 120 : 205;
+        for (int k = 0; k < nodes; k++) {
+            make("node", unary, edge(), Math.min(k, 199), -1);
+        }
+        ask(60);
+        make("clear");
+    }
+
+    private int edge() {
+        return EDGES[below(EDGES.length)];
+    }
+
+    private int findOperator(int kidCount) {
+        for (int number = 0; number < 32; number++) {
+            if (model.kidsOf(number) == kidCount) {
+                return number;
+            }
+        }
+        return -1;
+    }
+
     private void addOperators(int more) {
         for (int k = 0; k < more; k++) {
             int number = operators == 0 ? below(32) : wild(32);
@@ -79,7 +129,10 @@ public final class RunsTest {
         if (dice == 0) {
             return below(2) == 0 ? -1 : bound;
         }
-        return dice == 1 ? below(Integer.MAX_VALUE) * (1 - 2 * below(2)) : below(bound);
+        if (dice == 1) {
+            return edge();
+        }
+        return dice == 2 ? below(Integer.MAX_VALUE) * (1 - 2 * below(2)) : below(bound);
     }
 
     private void addRules(int more) {
@@ -96,8 +149,8 @@ public final class RunsTest {
                 make("element", e);
             }
             boolean limited = limits && below(3) == 0;
-            int low = limited ? below(5) - 2 : Integer.MIN_VALUE;
-            int high = limited ? below(5) : Integer.MAX_VALUE;
+            int low = limited ? below(4) == 0 ? edge() : below(5) - 2 : Integer.MIN_VALUE;
+            int high = limited ? below(4) == 0 ? edge() : below(5) : Integer.MAX_VALUE;
             make("rule", below(60) == 0 ? 16 : below(nonterminals), below(60) == 0 ? 100 : below(mostCost), low, high);
         }
     }
@@ -127,7 +180,7 @@ public final class RunsTest {
                 right = wild(20);
             }
             int number = below(40) == 0 ? wild(32) : operator / 4;
-            String answer = make("node", number, below(7) - 2, left, right);
+            String answer = make("node", number, below(5) == 0 ? edge() : below(7) - 2, left, right);
             if (!Character.isDigit(answer.charAt(0))) {
                 continue;
             }
@@ -198,6 +251,8 @@ public final class RunsTest {
         Check.due("run " + run + ", call " + calls + ": " + call + java.util.Arrays.toString(a) + " answered " + got
                 + ", the model " + want + "; so it", got.equals(want), true);
         tell(call, want);
+        boolean refused = call.equals("cover") && want.equals("IllegalStateException");
+        longCovers += refused && !model.cost(a[0], a[1]).equals("-1") ? 1 : 0;
         return want;
     }
 
@@ -209,6 +264,8 @@ public final class RunsTest {
         }
         tooMany += call.equals("states") && !answered ? 1 : 0;
         covers += call.equals("cover") && answered ? 1 : 0;
+        boolean refused = want.equals("IllegalStateException");
+        full += (call.equals("rule") || call.equals("node")) && refused ? 1 : 0;
     }
 
     private String answer(String call, int[] a) {
