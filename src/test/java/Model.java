@@ -1,12 +1,15 @@
 import java.math.BigInteger;
+import java.util.ArrayDeque;
 import java.util.ArrayList;
+import java.util.Deque;
 import java.util.HashSet;
 import java.util.List;
 import java.util.Set;
 
 /**
- * The document in its plainest form, without regard to room and time: patterns and trees are objects, all is
- * recursion, costs have no bound. Answers are texts, so that an exception is an answer too.
+ * The document in its plainest form, without regard to room and time: patterns and trees are objects,
+ * costs have no bound, and recursion follows patterns and chain rules alone, never the height of a tree.
+ * Answers are texts, so that an exception is an answer too.
  */
 final class Model {
     private static final String ARGUMENT = "IllegalArgumentException";
@@ -52,6 +55,10 @@ final class Model {
     }
 
     private record Pair(Tree node, int rule) {
+    }
+
+    /** A pattern still to be covered at a node; without a pattern, the pair that is then due. */
+    private record Step(Pattern pattern, Tree node, int rule) {
     }
 
     private final int[] kids = new int[32];
@@ -263,11 +270,10 @@ final class Model {
         if (!isLabel(node, n)) {
             return INDEX;
         }
-        List<Pair> made = new ArrayList<>();
         if (nodes.get(node).labels.costs[n] == null) {
             return STATE;
         }
-        coverLabel(nodes.get(node), n, made);
+        List<Pair> made = coverOf(nodes.get(node), n);
         if (made.size() > 2000) {
             return STATE;
         }
@@ -275,19 +281,30 @@ final class Model {
         return text(made.size());
     }
 
-    private void coverLabel(Tree t, int n, List<Pair> made) {
-        int r = t.labels.rules[n];
-        coverPattern(rules.get(r).pattern, t, made);
-        made.add(new Pair(t, r));
+    /** By a row of open steps: a cover may go 3,200 labels deep, which a machine's stack need not hold. */
+    private List<Pair> coverOf(Tree root, int n) {
+        List<Pair> made = new ArrayList<>();
+        Deque<Step> open = new ArrayDeque<>();
+        openLabel(root, n, open);
+        while (!open.isEmpty()) {
+            Step step = open.pop();
+            if (step.pattern == null) {
+                made.add(new Pair(step.node, step.rule));
+            } else if (step.pattern.isNonterminal()) {
+                openLabel(step.node, step.pattern.element - 32, open);
+            } else {
+                for (int k = step.pattern.kids.size() - 1; k >= 0; k--) {
+                    open.push(new Step(step.pattern.kids.get(k), step.node.kids.get(k), -1));
+                }
+            }
+        }
+        return made;
     }
 
-    private void coverPattern(Pattern p, Tree t, List<Pair> made) {
-        if (p.isNonterminal()) {
-            coverLabel(t, p.element - 32, made);
-        }
-        for (int k = 0; k < p.kids.size(); k++) {
-            coverPattern(p.kids.get(k), t.kids.get(k), made);
-        }
+    private void openLabel(Tree t, int n, Deque<Step> open) {
+        int r = t.labels.rules[n];
+        open.push(new Step(null, t, r));
+        open.push(new Step(rules.get(r).pattern, t, -1));
     }
 
     String pair(int k, int what) {

@@ -286,7 +286,8 @@ public final class RefusalsTest {
                 grammar(x);
                 Check.tellElements(x, elements);
             };
-            refused("rule of no pattern", ARGUMENT, withNone, RefusalsTest::grammar, x -> x.rule(4, 0, LEAST, GREATEST));
+            refused("rule of no pattern", ARGUMENT, withNone, RefusalsTest::grammar,
+                    x -> x.rule(4, 0, LEAST, GREATEST));
             refused("rule of no pattern, with limits", ARGUMENT, withNone, RefusalsTest::grammar,
                     x -> x.rule(4, 0, 0, 0));
         }
