@@ -30,9 +30,9 @@ public final class LanguageTest {
         text(code);
         List<Class<?>> classes = new ArrayList<>(List.of(TreeMatcher.class.getDeclaredClasses()));
         for (Class<?> inside : classes) {
-            int modifiers = inside.getModifiers();
-            Check.due(inside + " is static", Modifier.isStatic(modifiers), true);
-            Check.due(inside + " is seen outside", Modifier.isPublic(modifiers) || Modifier.isProtected(modifiers), false);
+            int seen = inside.getModifiers() & (Modifier.PUBLIC | Modifier.PROTECTED);
+            Check.due(inside + " is static", Modifier.isStatic(inside.getModifiers()), true);
+            Check.due(inside + " is seen outside", seen != 0, false);
         }
         classes.add(TreeMatcher.class);
         Check.due("at most twelve classes", classes.size() <= 12, true);
@@ -48,7 +48,7 @@ public final class LanguageTest {
             Matcher found = Pattern.compile(kept).matcher(code);
             Check.due("kept out: " + kept, found.find() ? found.group() : "nothing", "nothing");
         }
-        Matcher library = Pattern.compile("\\b(Arrays|System|Math|Integer|Long|String|List|Object)\\.\\w+").matcher(code);
+        Matcher library = Pattern.compile("\\b(Arrays|System|Math|Integer|Long|String|List)\\.\\w+").matcher(code);
         while (library.find()) {
             Check.due("the library has " + library.group(), LIBRARY.contains(library.group()), true);
         }
